@@ -36,6 +36,7 @@ public final class PromiseTest {
         full();
         digest();
         aheadChangesNothing();
+        fullVillage();
         System.out.println(wrong == 0 ? "all promises hold" : wrong + " answers are not as due");
         System.exit(wrong == 0 ? 0 : 1);
     }
@@ -478,6 +479,14 @@ public final class PromiseTest {
         y.cart(0, 5);
         y.pass(1);
         due("thirst of 100 days", 900, () -> y.foresee(100, 0));
+        RoofWater z = new RoofWater();
+        z.setWeather(0, 5, 0);
+        z.build(10, 10, 0, 0);
+        z.build(10, 100, 0, 0);
+        z.chain(0, 1);
+        due("water down the chain", 100, () -> z.foresee(1, 1));
+        due("not lost", 0, () -> z.foresee(1, 2));
+        due("lost at its end", 90, () -> z.foresee(29, 2));
         refuses(x, "0 days, what 3", ARGUMENT, () -> x.foresee(0, 3));
         refuses(x, "101 days, what -1", ARGUMENT, () -> x.foresee(101, -1));
         refuses(x, "what 3", INDEX, () -> x.foresee(1, 3));
@@ -542,6 +551,18 @@ public final class PromiseTest {
         z.cart(1, 400);
         // It is given at most 50 on day 0; of 10 to 20 the first day is not met.
         due("from a neighbour", 30, () -> z.needs(0, 2));
+        z.setPeople(1, 9);
+        z.turn(0, false);
+        due("of 900 27 a day", 900, () -> z.needs(1, 33));
+        due("900 are not enough", -1, () -> z.needs(1, 34));
+        RoofWater v = withHouses(2, 100);
+        v.setPeople(0, 1);
+        v.chain(0, 1);
+        v.lay(0, 1, 50);
+        v.cart(0, 100);
+        // What a smaller one would not hold does not go down the chain: of 10, 3 are drunk and 6 flow
+        // out; of 20, 3 and 14.
+        due("water at most what it would hold", 20, () -> v.needs(0, 2));
         refuses(x, "house 1, 0 days", INDEX, () -> x.needs(1, 0));
         refuses(x, "house -1", INDEX, () -> x.needs(-1, 1));
         refuses(x, "0 days", ARGUMENT, () -> x.needs(0, 0));
@@ -568,6 +589,15 @@ public final class PromiseTest {
         x.setPeople(0, 0);
         x.setPeople(1, 0);
         due("no thirst", -1, () -> x.dirty(60));
+        RoofWater y = new RoofWater();
+        for (int day = 0; day < 4; day++) {
+            y.setWeather(day, 0, 3);
+        }
+        y.setWeather(5, 1, 0);
+        y.build(10, 100, 1, 0);
+        y.build(11, 100, 1, 0);
+        y.pass(4);
+        due("11 last longer than 10", 1, () -> y.dirty(5));
         refuses(x, "0 days", ARGUMENT, () -> x.dirty(0));
         refuses(x, "61 days", ARGUMENT, () -> x.dirty(61));
     }
@@ -596,6 +626,14 @@ public final class PromiseTest {
         y.lay(0, 1, 50);
         due("closing one", 1, () -> y.advise(2));
         due("it is still open", 1, () -> y.pipe(1, 3));
+        RoofWater z = withHouses(2, 100);
+        z.setPeople(1, 3);
+        z.cart(0, 100);
+        for (int i = 0; i < 2; i++) {
+            z.lay(0, 1, 20);
+            z.turn(i, false);
+        }
+        due("alike, the smallest number", 0, () -> z.advise(2));
         refuses(y, "0 days", ARGUMENT, () -> y.advise(0));
         refuses(y, "61 days", ARGUMENT, () -> y.advise(61));
     }
@@ -621,6 +659,13 @@ public final class PromiseTest {
         due("the end and the start", 2, x::drought);
         x.pass(5);
         due("the day does not matter", 2, x::drought);
+        x.setWeather(27, 1, 0);
+        x.setWeather(1, 0, 0);
+        due("the start alone", 2, x::drought);
+        x.setWeather(26, 0, 0);
+        x.setWeather(25, 0, 0);
+        x.setWeather(24, 0, 0);
+        due("near the end", 3, x::drought);
     }
 
     private static void full() {
@@ -678,6 +723,38 @@ public final class PromiseTest {
         if (got != want) {
             tell(call + " answered " + got + ", due is " + want);
         }
+    }
+
+    /** Every call with the most houses and pipes that there can be. */
+    private static void fullVillage() {
+        promise = 22;
+        RoofWater x = withHouses(10, 100);
+        for (int i = 0; i < 10; i++) {
+            x.setPeople(i, 1);
+        }
+        for (int i = 8; i >= 0; i--) {
+            x.chain(i, i + 1);
+        }
+        for (int i = 0; i < 12; i++) {
+            x.lay(i % 9, 9, 5);
+        }
+        due("foresee", 60, () -> x.foresee(2, 0));
+        due("lasts", 1, () -> x.lasts(9));
+        due("needs", -1, () -> x.needs(9, 1));
+        due("dirty", -1, () -> x.dirty(1));
+        due("advise", -1, () -> x.advise(1));
+        due("pass", 30, () -> x.pass(1));
+        due("full", 0, x::full);
+        dueCounts(x, new int[] {1, 10, 12, 0, 30, 0, 0, 0, 0, 0, 12});
+        dueHouse(x, 9, new int[] {10, 100, 0, 1, 0, 0, -1, 3, 0, 1});
+        duePipe(x, 11, new int[] {2, 9, 5, 1, 0});
+        due("owes", 0, () -> x.owes(9, 8));
+        long before = x.digest();
+        dueLong("digest", before, x.digest());
+        due("cart", 0, () -> x.cart(0, 500));
+        due("water of 4", 100, () -> x.house(4, 2));
+        due("cart", 0, () -> x.cart(0, 500));
+        due("cart", 1, () -> x.cart(0, 1));
     }
 
     private static void aheadChangesNothing() {
